@@ -1,27 +1,5 @@
-import java.lang.reflect.InvocationTargetException;
-import java.lang.reflect.Method;
-import java.util.ArrayList;
-import java.util.List;
-import java.util.Set;
-
-/**
- * Promise by promise, scripts of calls with the answers that the document asks for.
- *
- * <p>A script runs on a new object, a call a line: {@code make(0, 5) -> 0}. An answer that is the
- * name of an exception means that the call throws just that one. Where a call may change nothing
- * (what only asks, an exception, a fault that is told by a number), that is looked at, too.
- */
+/** Promise by promise, scripts of calls (see {@link Script}) with ordinary inputs, edges and wrong ones. */
 public final class PromisesTest {
-
-  private static final Set<String> ASKING =
-      Set.of("ofRow", "at", "text", "find", "findPart", "count", "ofShelf", "onShelf", "unlike",
-          "house", "nth", "ordered", "top", "wouldFind", "would", "mode", "shared", "isSound",
-          "digest");
-  private static final Set<String> TELLING_FAULTS =
-      Set.of("fillPart", "resize", "cut", "sortPart", "keepPart", "drop");
-
-  private static int wrong = 0;
-  private static int calls = 0;
 
   public static void main(String[] args) {
     rowsThatAreMade();
@@ -30,16 +8,13 @@ public final class PromisesTest {
     whatIsAsked();
     whatWouldBe();
     digests();
-    System.out.println(calls + " calls, " + wrong + " of them not as due");
-    if (wrong != 0) {
-      System.exit(1);
-    }
+    Script.end();
   }
 
   // ---- promises 1 to 12
 
   private static void rowsThatAreMade() {
-    script("1 a new object",
+    Script.run("1 a new object",
         """
         house(0) -> 0
         house(1) -> 0
@@ -55,7 +30,7 @@ public final class PromisesTest {
         ofShelf(0, 0) -> IndexOutOfBoundsException
         isSound() -> true
         """);
-    script("2 make",
+    Script.run("2 make",
         """
         make(0, 3) -> 0
         text(0, 0, 3) -> "0,0,0"
@@ -76,7 +51,7 @@ public final class PromisesTest {
         house(1) -> 2
         """);
     patterns();
-    script("4 set",
+    Script.run("4 set",
         """
         make(0, 2) -> 0
         set(0, 0, -2147483648) -> 0
@@ -89,7 +64,7 @@ public final class PromisesTest {
         set(-1, 0, 1) -> IndexOutOfBoundsException
         set(5, 0, 1) -> IndexOutOfBoundsException
         """);
-    script("4 set: the kinds",
+    Script.run("4 set: the kinds",
         """
         make(1, 2) -> 0
         set(1, 0, 2147483647) -> 0
@@ -119,7 +94,7 @@ public final class PromisesTest {
         set(4, 3, -32769) -> 0
         text(4, 0, 4) -> "32767,-32768,-32768,32767"
         """);
-    script("5 swap",
+    Script.run("5 swap",
         """
         pattern(1, 0, 4, 1, 1, 1) -> 1
         swap(1, 0, 3) -> 3
@@ -136,7 +111,7 @@ public final class PromisesTest {
         swap(-1, 0, 1) -> IndexOutOfBoundsException
         swap(0, 0, 0) -> IndexOutOfBoundsException
         """);
-    script("6 fill",
+    Script.run("6 fill",
         """
         fill(3, 9) -> 0
         pattern(3, 0, 4, 5, 1, 1) -> 1
@@ -148,7 +123,7 @@ public final class PromisesTest {
         fill(-1, 6) -> IndexOutOfBoundsException
         fill(5, 6) -> IndexOutOfBoundsException
         """);
-    script("7 fillPart",
+    Script.run("7 fillPart",
         """
         pattern(2, 0, 6, 0, 1, 1) -> 1
         fillPart(2, 1, 4, 65538) -> 2
@@ -169,7 +144,7 @@ public final class PromisesTest {
         fillPart(5, 401, 0, 7) -> IndexOutOfBoundsException
         fillPart(-1, 0, 0, 7) -> IndexOutOfBoundsException
         """);
-    script("8 resize",
+    Script.run("8 resize",
         """
         pattern(0, 0, 4, 5, 1, 1) -> 1
         resize(0, 2) -> 4
@@ -186,7 +161,7 @@ public final class PromisesTest {
         resize(-1, 301) -> IndexOutOfBoundsException
         resize(5, -1) -> IndexOutOfBoundsException
         """);
-    script("9 cut",
+    Script.run("9 cut",
         """
         pattern(4, 0, 6, 10, 1, 1) -> 1
         cut(4, 2, 5) -> 3
@@ -214,7 +189,7 @@ public final class PromisesTest {
         cut(4, 0, 0) -> 0
         cut(4, 0, 2) -> 2
         """);
-    script("10 turn",
+    Script.run("10 turn",
         """
         pattern(0, 0, 6, 1, 1, 1) -> 1
         turn(0, 1, 5) -> 4
@@ -235,13 +210,13 @@ public final class PromisesTest {
         turn(-1, 0, 0) -> IndexOutOfBoundsException
         turn(1, 0, 0) -> 0
         """);
-    script("10 turn: runs",
+    Script.run("10 turn: runs",
         """
         pattern(0, 0, 6, 6, -1, 1) -> 6
         turn(0, 0, 6) -> 1
         turn(0, 0, 3) -> 3
         """);
-    script("11 roll",
+    Script.run("11 roll",
         """
         pattern(1, 0, 5, 1, 1, 1) -> 1
         roll(1, 2) -> 2
@@ -259,7 +234,7 @@ public final class PromisesTest {
         roll(5, 301) -> IndexOutOfBoundsException
         roll(-1, 0) -> IndexOutOfBoundsException
         """);
-    script("12 pour",
+    Script.run("12 pour",
         """
         pattern(0, 0, 4, -300, 200, 1) -> 1
         make(3, 7) -> 0
@@ -286,7 +261,7 @@ public final class PromisesTest {
   }
 
   private static void patterns() {
-    script("3 pattern",
+    Script.run("3 pattern",
         """
         pattern(0, 0, 5, 10, -3, 1) -> 5
         text(0, 0, 5) -> "10,7,4,1,-2"
@@ -318,7 +293,7 @@ public final class PromisesTest {
         pattern(0, 6, 3, 7, 10, 1) -> 1
         text(0, 0, 3) -> "7,8,9"
         """);
-    script("3 pattern: the kinds",
+    Script.run("3 pattern: the kinds",
         """
         pattern(3, 0, 4, 126, 1, 1) -> 2
         text(3, 0, 4) -> "126,127,-128,-127"
@@ -331,7 +306,7 @@ public final class PromisesTest {
         pattern(3, 4, 3, 127, 1, 1) -> 1
         text(3, 0, 3) -> "-128,-127,127"
         """);
-    script("3 pattern: bounds",
+    Script.run("3 pattern: bounds",
         """
         pattern(0, 6, 300, 100000, 1000, 100) -> 100
         ofRow(0, 0) -> 300
@@ -356,7 +331,7 @@ public final class PromisesTest {
   // ---- promises 13 to 18
 
   private static void rowsInOrder() {
-    script("13 sort",
+    Script.run("13 sort",
         """
         sort(0) -> 0
         pattern(0, 1, 6, 3, -1, 3) -> 5
@@ -381,7 +356,7 @@ public final class PromisesTest {
         sort(-1) -> IndexOutOfBoundsException
         sort(5) -> IndexOutOfBoundsException
         """);
-    script("14 sortPart",
+    Script.run("14 sortPart",
         """
         pattern(0, 0, 6, 6, -1, 1) -> 6
         sortPart(0, 1, 4) -> 2
@@ -404,7 +379,7 @@ public final class PromisesTest {
         sortPart(0, 0, 6) -> 6
         text(0, 0, 6) -> "1,2,3,4,5,6"
         """);
-    script("15 sortPieces",
+    Script.run("15 sortPieces",
         """
         pattern(3, 0, 8, 8, -1, 1) -> 8
         sortPieces(3, 3) -> 3
@@ -423,7 +398,7 @@ public final class PromisesTest {
         sortPieces(5, 0) -> IndexOutOfBoundsException
         sortPieces(-1, 1) -> IndexOutOfBoundsException
         """);
-    script("16 insert",
+    Script.run("16 insert",
         """
         insert(4, 5) -> 0
         insert(4, 9) -> 1
@@ -446,7 +421,7 @@ public final class PromisesTest {
         text(1, 0, 2) -> "-3000000019,0"
         at(1, 299) -> 0
         """);
-    script("17 drop",
+    Script.run("17 drop",
         """
         drop(2, 5) -> -1
         pattern(2, 1, 6, 1, 0, 1) -> 1
@@ -474,7 +449,7 @@ public final class PromisesTest {
         drop(0, 0) -> 0
         ofRow(0, 0) -> 298
         """);
-    script("18 thin",
+    Script.run("18 thin",
         """
         thin(0) -> 0
         pattern(0, 1, 9, 1, 1, 3) -> 3
@@ -496,7 +471,7 @@ public final class PromisesTest {
   // ---- promises 19 to 25
 
   private static void shelves() {
-    script("19 keep",
+    Script.run("19 keep",
         """
         pattern(1, 0, 3, 4, 1, 1) -> 1
         keep(1) -> 0
@@ -518,7 +493,7 @@ public final class PromisesTest {
         keep(2) -> 5
         ofShelf(5, 0) -> 2
         """);
-    script("20 keepPart",
+    Script.run("20 keepPart",
         """
         pattern(3, 0, 5, 1, 1, 1) -> 1
         keepPart(3, 1, 4) -> 0
@@ -555,7 +530,7 @@ public final class PromisesTest {
         keepPart(5, 0, 1) -> IndexOutOfBoundsException
         text(3, 0, 5) -> "1,2,3,4,5"
         """);
-    script("20 keepPart: no old number comes behind",
+    Script.run("20 keepPart: no old number comes behind",
         """
         pattern(0, 0, 300, 1, 1, 1) -> 1
         keep(0) -> 0
@@ -566,7 +541,7 @@ public final class PromisesTest {
         onShelf(0, 1) -> 0
         onShelf(0, 2) -> 0
         """);
-    script("21 layBack",
+    Script.run("21 layBack",
         """
         pattern(2, 0, 3, 4, 1, 1) -> 1
         keep(2) -> 0
@@ -584,7 +559,7 @@ public final class PromisesTest {
         layBack(2) -> IndexOutOfBoundsException
         layBack(-1) -> IndexOutOfBoundsException
         """);
-    script("22 sortShelf",
+    Script.run("22 sortShelf",
         """
         pattern(3, 0, 5, 5, -1, 1) -> 5
         keep(3) -> 0
@@ -598,7 +573,7 @@ public final class PromisesTest {
         sortShelf(2) -> IndexOutOfBoundsException
         sortShelf(-1) -> IndexOutOfBoundsException
         """);
-    script("23 merge",
+    Script.run("23 merge",
         """
         pattern(1, 0, 3, 5, -2, 1) -> 3
         keep(1) -> 0
@@ -624,7 +599,7 @@ public final class PromisesTest {
         keepPart(0, 300, 300) -> 2
         merge(2) -> 300
         """);
-    script("24 throwAway",
+    Script.run("24 throwAway",
         """
         pattern(0, 0, 2, 7, 1, 1) -> 1
         keep(1) -> 0
@@ -642,7 +617,7 @@ public final class PromisesTest {
         keep(0) -> 0
         onShelf(0, 1) -> 8
         """);
-    script("25 knock",
+    Script.run("25 knock",
         """
         knock() -> 1
         knock() -> 2
@@ -654,7 +629,7 @@ public final class PromisesTest {
   // ---- promises 26 to 35
 
   private static void whatIsAsked() {
-    script("26 ofRow",
+    Script.run("26 ofRow",
         """
         ofRow(0, 1) -> 1
         ofRow(0, 2) -> 0
@@ -681,7 +656,7 @@ public final class PromisesTest {
         ofRow(5, 5) -> IndexOutOfBoundsException
         ofRow(-1, 0) -> IndexOutOfBoundsException
         """);
-    script("27 at",
+    Script.run("27 at",
         """
         at(1, 0) -> IndexOutOfBoundsException
         pattern(1, 0, 3, 4, 1, 1) -> 1
@@ -692,7 +667,7 @@ public final class PromisesTest {
         at(5, 0) -> IndexOutOfBoundsException
         at(-1, 0) -> IndexOutOfBoundsException
         """);
-    script("28 text",
+    Script.run("28 text",
         """
         text(0, 0, 0) -> ""
         pattern(0, 0, 50, -10, 10, 1) -> 1
@@ -712,7 +687,7 @@ public final class PromisesTest {
         text(5, 401, 401) -> IndexOutOfBoundsException
         text(-1, 0, 0) -> IndexOutOfBoundsException
         """);
-    script("29 find",
+    Script.run("29 find",
         """
         find(3, 4) -> -1
         pattern(3, 1, 6, 2, 4, 1) -> 1
@@ -729,7 +704,7 @@ public final class PromisesTest {
         find(5, 9) -> IndexOutOfBoundsException
         find(-1, 9) -> IndexOutOfBoundsException
         """);
-    script("30 findPart",
+    Script.run("30 findPart",
         """
         findPart(0, 0, 0, 5) -> -1
         pattern(0, 1, 9, 1, 2, 3) -> 3
@@ -759,7 +734,7 @@ public final class PromisesTest {
         make(4, 4) -> 0
         findPart(4, 1, 4, 65536) -> 1
         """);
-    script("31 count",
+    Script.run("31 count",
         """
         count(2, 0) -> 0
         pattern(2, 1, 7, 65535, 1, 2) -> 4
@@ -770,7 +745,7 @@ public final class PromisesTest {
         count(5, 0) -> IndexOutOfBoundsException
         count(-1, 0) -> IndexOutOfBoundsException
         """);
-    script("32 ofShelf",
+    Script.run("32 ofShelf",
         """
         ofShelf(0, 0) -> IndexOutOfBoundsException
         pattern(4, 0, 3, 4, -1, 1) -> 3
@@ -789,7 +764,7 @@ public final class PromisesTest {
         ofShelf(2, 3) -> IndexOutOfBoundsException
         ofShelf(-1, 0) -> IndexOutOfBoundsException
         """);
-    script("33 onShelf",
+    Script.run("33 onShelf",
         """
         onShelf(0, 0) -> IndexOutOfBoundsException
         pattern(1, 0, 3, 4, -1, 1) -> 3
@@ -803,7 +778,7 @@ public final class PromisesTest {
         onShelf(2, 0) -> IndexOutOfBoundsException
         onShelf(-1, 0) -> IndexOutOfBoundsException
         """);
-    script("34 unlike",
+    Script.run("34 unlike",
         """
         pattern(2, 0, 4, 4, 1, 1) -> 1
         keep(2) -> 0
@@ -829,7 +804,7 @@ public final class PromisesTest {
         unlike(2) -> IndexOutOfBoundsException
         unlike(-1) -> IndexOutOfBoundsException
         """);
-    script("35 house",
+    Script.run("35 house",
         """
         pattern(0, 0, 4, 1, 1, 1) -> 1
         pattern(1, 0, 3, 1, -1, 1) -> 3
@@ -854,7 +829,7 @@ public final class PromisesTest {
   // ---- promises 36 to 43
 
   private static void whatWouldBe() {
-    script("36 nth",
+    Script.run("36 nth",
         """
         nth(0, 0) -> IndexOutOfBoundsException
         pattern(0, 1, 6, 3, -1, 3) -> 5
@@ -868,7 +843,7 @@ public final class PromisesTest {
         nth(-1, 0) -> IndexOutOfBoundsException
         text(0, 0, 6) -> "3,2,1,3,2,1"
         """);
-    script("37 ordered",
+    Script.run("37 ordered",
         """
         ordered(1, 0, 0) -> ""
         pattern(1, 0, 42, 41, -1, 1) -> 42
@@ -887,7 +862,7 @@ public final class PromisesTest {
         pattern(3, 3, 40, 1, 0, 1) -> 1
         ordered(3, 0, 40) -> "1,1,1,1,1,1,1,1,1,1,1,1,1,1,1,1,1,1,1,1,1,1,1,1,1,1,1,1,1,1,1,1,1,1,1,1,1,1,1,1"
         """);
-    script("38 top",
+    Script.run("38 top",
         """
         top(4, 40) -> ""
         pattern(4, 1, 5, -1, 2, 3) -> 2
@@ -903,7 +878,7 @@ public final class PromisesTest {
         top(5, 41) -> IndexOutOfBoundsException
         top(-1, 0) -> IndexOutOfBoundsException
         """);
-    script("39 wouldFind",
+    Script.run("39 wouldFind",
         """
         wouldFind(3, 5) -> -1
         pattern(3, 1, 6, 8, -3, 3) -> 5
@@ -917,7 +892,7 @@ public final class PromisesTest {
         wouldFind(5, 9) -> IndexOutOfBoundsException
         wouldFind(-1, 9) -> IndexOutOfBoundsException
         """);
-    script("40 would",
+    Script.run("40 would",
         """
         would(0, 0) -> 0
         would(0, 1) -> 0
@@ -949,7 +924,7 @@ public final class PromisesTest {
         would(5, 4) -> IndexOutOfBoundsException
         would(-1, 0) -> IndexOutOfBoundsException
         """);
-    script("41 mode",
+    Script.run("41 mode",
         """
         mode(2) -> IllegalStateException
         pattern(2, 1, 7, 65530, 3, 3) -> 3
@@ -966,7 +941,7 @@ public final class PromisesTest {
         mode(5) -> IndexOutOfBoundsException
         mode(-1) -> IndexOutOfBoundsException
         """);
-    script("42 shared",
+    Script.run("42 shared",
         """
         shared(0, 0) -> IndexOutOfBoundsException
         pattern(0, 1, 5, 3, -1, 3) -> 4
@@ -1006,7 +981,7 @@ public final class PromisesTest {
         shared(2, 3) -> IndexOutOfBoundsException
         shared(-1, 0) -> IndexOutOfBoundsException
         """);
-    script("43 isSound",
+    Script.run("43 isSound",
         """
         isSound() -> true
         pattern(0, 5, 300, 1, 1, 100) -> 148
@@ -1045,13 +1020,9 @@ public final class PromisesTest {
   }
 
   private static void digest(String name, String lines) {
-    List<String> script = linesOf(lines);
-    script("44 digest: " + name, lines);
-    Rowsorter x = replay(script, script.size());
-    calls++;
-    if (x.digest() != digestOf(replay(script, script.size()))) {
-      report("44 digest: " + name, "digest()", x.digest(), "another one");
-    }
+    Script.run("44 digest: " + name, lines);
+    long got = Script.after(lines).digest();
+    Script.demand("44 digest: " + name, "digest()", got, digestOf(Script.after(lines)));
   }
 
   /** The checksum, put together from the other answers as the document tells it. */
@@ -1089,105 +1060,5 @@ public final class PromisesTest {
       }
     }
     return d * 31 + (x.isSound() ? 1 : 0);
-  }
-
-  // ---- how scripts are run
-
-  private static void script(String name, String lines) {
-    List<String> script = linesOf(lines);
-    Rowsorter x = new Rowsorter();
-    for (int i = 0; i < script.size(); i++) {
-      String call = callOf(script.get(i));
-      String due = script.get(i).substring(call.length() + " -> ".length());
-      String got = answer(x, call);
-      calls++;
-      if (!got.equals(due)) {
-        report(name, call, got, due);
-      }
-      if (mayChangeNothing(call, got)
-          && !stateOf(replay(script, i)).equals(stateOf(replay(script, i + 1)))) {
-        report(name, call, "a change", "none");
-      }
-    }
-  }
-
-  private static boolean mayChangeNothing(String call, String got) {
-    String name = call.substring(0, call.indexOf('('));
-    return ASKING.contains(name)
-        || got.endsWith("Exception")
-        || TELLING_FAULTS.contains(name) && got.startsWith("-");
-  }
-
-  /** A new object after the first calls of a script: no object lives longer than the document says. */
-  private static Rowsorter replay(List<String> script, int many) {
-    Rowsorter x = new Rowsorter();
-    for (int i = 0; i < many; i++) {
-      answer(x, callOf(script.get(i)));
-    }
-    return x;
-  }
-
-  private static String stateOf(Rowsorter x) {
-    StringBuilder state = new StringBuilder();
-    state.append(x.digest());
-    for (int kind = 0; kind <= 4; kind++) {
-      int size = x.ofRow(kind, 0);
-      for (int from = 0; from < size; from += 40) {
-        state.append(' ').append(x.text(kind, from, Math.min(from + 40, size)));
-      }
-    }
-    for (int shelf = 0; shelf < x.house(0); shelf++) {
-      int size = Math.min(x.ofShelf(shelf, 1), 40);
-      for (int place = 0; place < size; place++) {
-        state.append(' ').append(x.onShelf(shelf, place));
-      }
-    }
-    return state.toString();
-  }
-
-  private static List<String> linesOf(String lines) {
-    List<String> script = new ArrayList<>();
-    for (String line : lines.split("\n")) {
-      if (!line.isBlank()) {
-        script.add(line.strip());
-      }
-    }
-    return script;
-  }
-
-  private static String callOf(String line) {
-    return line.substring(0, line.indexOf(" -> "));
-  }
-
-  private static String answer(Rowsorter x, String call) {
-    String name = call.substring(0, call.indexOf('('));
-    String inside = call.substring(call.indexOf('(') + 1, call.length() - 1);
-    String[] words = inside.isEmpty() ? new String[0] : inside.split(", ");
-    Object[] values = new Object[words.length];
-    for (int i = 0; i < words.length; i++) {
-      values[i] = Integer.valueOf(words[i]);
-    }
-    try {
-      Object got = methodOf(name).invoke(x, values);
-      return got instanceof String ? "\"" + got + "\"" : String.valueOf(got);
-    } catch (InvocationTargetException e) {
-      return e.getCause().getClass().getSimpleName();
-    } catch (IllegalAccessException e) {
-      return "no access";
-    }
-  }
-
-  private static Method methodOf(String name) {
-    for (Method method : Rowsorter.class.getMethods()) {
-      if (method.getName().equals(name)) {
-        return method;
-      }
-    }
-    throw new IllegalStateException("no method " + name);
-  }
-
-  private static void report(String name, String call, Object got, Object due) {
-    wrong++;
-    System.out.println(name + ": " + call + " answered " + got + ", due is " + due);
   }
 }
