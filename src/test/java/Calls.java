@@ -23,10 +23,6 @@ final class Calls {
     return METHODS.keySet();
   }
 
-  static int parametersOf(String name) {
-    return METHODS.get(name).getParameterCount();
-  }
-
   /** The answer of a call, or the class of the exception that it throws. */
   static Object answer(Rowsorter x, String name, int[] values) {
     Object[] boxed = new Object[values.length];

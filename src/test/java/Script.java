@@ -76,7 +76,10 @@ final class Script {
     return x;
   }
 
-  /** All that can be asked of an object, NUMBER by NUMBER. */
+  /**
+   * All NUMBERS of an object and what else can be told of it. The object is worth nothing then: what
+   * lies on the SHELVES is laid back to be read, so that few calls are enough, even of the longest.
+   */
   static String stateOf(Rowsorter x) {
     StringBuilder state = new StringBuilder();
     state.append(x.digest());
@@ -85,20 +88,22 @@ final class Script {
     }
     for (int kind = 0; kind <= 4; kind++) {
       state.append("\nrow ").append(kind).append(':');
-      int size = x.ofRow(kind, 0);
-      for (int place = 0; place < size; place++) {
-        state.append(' ').append(x.at(kind, place));
-      }
+      addRow(state, x, kind);
     }
     int shelves = x.house(0);
     for (int shelf = 0; shelf < shelves; shelf++) {
-      state.append("\nshelf of ").append(x.ofShelf(shelf, 0)).append(':');
-      int size = x.ofShelf(shelf, 1);
-      for (int place = 0; place < size; place++) {
-        state.append(' ').append(x.onShelf(shelf, place));
-      }
+      int kind = x.layBack(shelf);
+      state.append("\nshelf of ").append(kind).append(':');
+      addRow(state, x, kind);
     }
     return state.toString();
+  }
+
+  private static void addRow(StringBuilder state, Rowsorter x, int kind) {
+    int size = x.ofRow(kind, 0);
+    for (int from = 0; from < size; from += 40) {
+      state.append(' ').append(x.text(kind, from, Math.min(from + 40, size)));
+    }
   }
 
   private static List<String> linesOf(String lines) {
