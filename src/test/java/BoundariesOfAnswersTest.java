@@ -1,8 +1,13 @@
+import java.math.BigInteger;
+
 /**
  * The sentences of promises 26 to 44 that name a boundary case, each with a script of its own (see
  * {@link Script}) that would fail if the sentence were broken.
  */
 public final class BoundariesOfAnswersTest {
+
+  private static final int LEAST = Integer.MIN_VALUE;
+  private static final int MOST = Integer.MAX_VALUE;
 
   public static void main(String[] args) {
     kindsOfEachMethod();
@@ -34,7 +39,7 @@ public final class BoundariesOfAnswersTest {
 
   // ---- what several methods refuse alike
 
-  private static final int[] NO_KINDS = {-1, 5, 6, Integer.MIN_VALUE, Integer.MAX_VALUE};
+  private static final int[] NO_KINDS = {-1, 5, 6, LEAST, MOST};
 
   private static void kindsOfEachMethod() {
     String[] calls = {
@@ -58,7 +63,7 @@ public final class BoundariesOfAnswersTest {
       StringBuilder lines = new StringBuilder();
       lines.append(call.replace("@", "0")).append(" -> IndexOutOfBoundsException\n");
       lines.append("make(3, 2) -> 0\nkeep(3) -> 0\nkeep(3) -> 1\n");
-      for (int shelf : new int[] {2, 5, 6, -1, Integer.MIN_VALUE, Integer.MAX_VALUE}) {
+      for (int shelf : new int[] {2, 5, 6, -1, LEAST, MOST}) {
         lines.append(call.replace("@", String.valueOf(shelf)));
         lines.append(" -> IndexOutOfBoundsException\n");
       }
@@ -84,7 +89,7 @@ public final class BoundariesOfAnswersTest {
       lines.append("resize(0, 3) -> 300\n");
       lines.append(isOfShelf ? "throwAway(0) -> 0\nkeep(0) -> 0\n" : "");
       lines.append(name).append("(0, 2) -> 9\n");
-      for (int place : new int[] {3, 299, 300, -1, Integer.MIN_VALUE, Integer.MAX_VALUE}) {
+      for (int place : new int[] {3, 299, 300, -1, LEAST, MOST}) {
         lines.append(name).append("(0, ").append(place).append(") -> IndexOutOfBoundsException\n");
       }
       Script.run(name + ": Throws IndexOutOfBoundsException if .. there is no such PLACE",
@@ -100,7 +105,7 @@ public final class BoundariesOfAnswersTest {
       StringBuilder lines = new StringBuilder("keep(0) -> 0\n");
       lines.append(calls[i].replace("W", String.valueOf(last[i])));
       lines.append(" -> ").append(answers[i]).append('\n');
-      for (int what : new int[] {last[i] + 1, -1, Integer.MIN_VALUE, Integer.MAX_VALUE}) {
+      for (int what : new int[] {last[i] + 1, -1, LEAST, MOST}) {
         lines.append(calls[i].replace("W", String.valueOf(what)));
         lines.append(" -> IllegalArgumentException\n");
       }
@@ -379,6 +384,13 @@ public final class BoundariesOfAnswersTest {
         fill(0, 1) -> 300
         keep(0) -> 2
         ofShelf(2, 2) -> 1
+        set(0, 0, 2) -> 1
+        keep(0) -> 3
+        ofShelf(3, 2) -> 0
+        set(0, 0, 1) -> 2
+        set(0, 299, 0) -> 1
+        keep(0) -> 4
+        ofShelf(4, 2) -> 0
         """);
   }
 
@@ -715,6 +727,19 @@ public final class BoundariesOfAnswersTest {
         make(0, 0) -> 5
         shared(1, 1) -> 0
         """);
+    Script.run("42: 1 how many NUMBERS both have in common: some just of the ROW, some just of the SHELF",
+        """
+        pattern(0, 0, 4, 4, -1, 1) -> 4
+        keep(0) -> 0
+        pattern(0, 0, 4, 3, 1, 1) -> 1
+        shared(0, 1) -> 2
+        pattern(0, 0, 4, 2, -1, 1) -> 4
+        shared(0, 1) -> 2
+        pattern(0, 0, 4, 0, 4, 1) -> 1
+        shared(0, 1) -> 1
+        pattern(0, 0, 4, 5, 1, 1) -> 1
+        shared(0, 1) -> 0
+        """);
     Script.run("42: 2 how many unlike NUMBERS of the ROW are not on it",
         """
         keep(0) -> 0
@@ -731,6 +756,13 @@ public final class BoundariesOfAnswersTest {
         shared(1, 2) -> 298
         make(0, 0) -> 300
         shared(1, 2) -> 0
+        pattern(0, 0, 4, 4, -1, 1) -> 4
+        keep(0) -> 2
+        shared(2, 2) -> 0
+        pattern(0, 0, 4, 0, 1, 1) -> 1
+        shared(2, 2) -> 1
+        pattern(0, 0, 4, 2, 1, 1) -> 1
+        shared(2, 2) -> 1
         """);
   }
 
@@ -767,52 +799,70 @@ public final class BoundariesOfAnswersTest {
         """);
   }
 
+  // ---- the checksum, put together from numbers that are told by hand
+
+  private static final int[] EMPTY_ROW = {0, 1, 0, 0, 0, 0, 0, -1, -1, -1, -1};
+
+  /** By numbers without bounds, cut to 64 bits at the end only; the last one is that of isSound. */
+  private static long checksum(int[]... all) {
+    BigInteger d = BigInteger.valueOf(5113);
+    for (int[] numbers : all) {
+      for (int number : numbers) {
+        d = d.multiply(BigInteger.valueOf(31)).add(BigInteger.valueOf(number));
+      }
+    }
+    return d.multiply(BigInteger.valueOf(31)).add(BigInteger.ONE).longValue();
+  }
+
   private static void digest() {
     emptyDigest();
     digestOfOne();
-    digestThatWraps();
+    digestOfFive();
+    digestOfExtremes();
   }
 
-  /** Put together by hand: five numbers of the house, five rows of none, then 1 for isSound. */
   private static void emptyDigest() {
-    long d = 5113;
-    for (int i = 0; i < 5; i++) {
-      d = d * 31;
-    }
-    for (int kind = 0; kind < 5; kind++) {
-      int[] facts = {0, 1, 0, 0, 0, 0, 0, -1, -1, -1, -1};
-      for (int fact : facts) {
-        d = d * 31 + fact;
-      }
-    }
-    Script.demand("44: nth() .. (none with SIZE 0)", "digest()", new Rowsorter().digest(), d * 31 + 1);
+    int[] house = {0, 0, 0, 0, 0};
+    Script.demand("44: nth() .. (none with SIZE 0)", "digest()", new Rowsorter().digest(),
+        checksum(house, EMPTY_ROW, EMPTY_ROW, EMPTY_ROW, EMPTY_ROW, EMPTY_ROW));
   }
 
-  /** One NUMBER in ROW 4 and on a SHELF: the PLACES 0, SIZE / 2 and SIZE less 1 are all 0. */
+  /** One NUMBER in ROW 4, and two on a SHELF: the PLACES 0, SIZE / 2 and SIZE less 1 are all 0. */
   private static void digestOfOne() {
     Rowsorter x = Script.after(
         """
-        make(4, 1) -> 0
-        set(4, 0, 100) -> 0
+        make(4, 2) -> 0
+        set(4, 0, -7) -> 0
         keep(4) -> 0
-        set(4, 0, -7) -> 100
+        resize(4, 1) -> 2
         knock() -> 1
         """);
-    int[] house = {1, 1, 1, 1, 1};
-    int[] none = {0, 1, 0, 0, 0, 0, 0, -1, -1, -1, -1};
+    int[] house = {1, 1, 2, 1, 1};
     int[] row = {1, 1, 1, 1, -7, 0, 1, 1, -1, -7, -7, -7, 0, -2, -2};
-    int[] shelf = {4, 1, 1, 0, 0, 0, 1};
-    long d = 5113;
-    for (int[] facts : new int[][] {house, none, none, none, none, row, shelf, {1}}) {
-      for (int fact : facts) {
-        d = d * 31 + fact;
-      }
-    }
-    Script.demand("44: nth() of the PLACES 0, SIZE / 2 and SIZE less 1", "digest()", x.digest(), d);
+    int[] shelf = {4, 2, 1, 1, 0, 1, 0};
+    Script.demand("44: SHELF by SHELF ofShelf() .., unlike(), shared()", "digest()", x.digest(),
+        checksum(house, EMPTY_ROW, EMPTY_ROW, EMPTY_ROW, EMPTY_ROW, row, shelf));
   }
 
-  /** By numbers without bounds, cut to 64 bits at the end only. */
-  private static void digestThatWraps() {
+  /** The PLACES 0, 2 and 4 of five, and the NUMBERS that are asked for by wouldFind. */
+  private static void digestOfFive() {
+    Rowsorter x = Script.after(
+        """
+        pattern(1, 0, 5, 101, -1, 1) -> 5
+        set(1, 0, 0) -> 101
+        set(1, 1, -7) -> 100
+        """);
+    int[] house = {0, 5, 0, 0, 0};
+    int[] row = {5, 0, 4, 1, 0, -7, 99, 98, 97, 4, 5, 1, 1, -7, 97, 99, 0, 1, -6};
+    Script.demand("44: nth() of the PLACES 0, SIZE / 2 and SIZE less 1", "digest()", x.digest(),
+        checksum(house, EMPTY_ROW, row, EMPTY_ROW, EMPTY_ROW, EMPTY_ROW));
+    x.set(1, 4, 100);
+    int[] with100 = {5, 0, 3, 1, 0, -7, 99, 98, 100, 4, 5, 1, 1, -7, 98, 100, 0, 1, 4};
+    Script.demand("44: wouldFind() by -7, 0 and 100", "digest()", x.digest(),
+        checksum(house, EMPTY_ROW, with100, EMPTY_ROW, EMPTY_ROW, EMPTY_ROW));
+  }
+
+  private static void digestOfExtremes() {
     Rowsorter x = Script.after(
         """
         make(0, 3) -> 0
@@ -821,15 +871,9 @@ public final class BoundariesOfAnswersTest {
         """);
     int[] house = {0, 3, 0, 0, 0};
     int[] row = {
-      3, 0, 2, 1, 2147483647, -2147483648, 0, 3, 3, 1, 2147483647, -2147483648, 0, 2147483647, -2, 1, -3
+      3, 0, 2, 1, MOST, LEAST, 0, 3, 3, 1, MOST, LEAST, 0, MOST, -2, 1, -3
     };
-    int[] none = {0, 1, 0, 0, 0, 0, 0, -1, -1, -1, -1};
-    java.math.BigInteger d = java.math.BigInteger.valueOf(5113);
-    for (int[] facts : new int[][] {house, row, none, none, none, none, {1}}) {
-      for (int fact : facts) {
-        d = d.multiply(java.math.BigInteger.valueOf(31)).add(java.math.BigInteger.valueOf(fact));
-      }
-    }
-    Script.demand("44: wraps around as a 64-bit integer", "digest()", x.digest(), d.longValue());
+    Script.demand("44: wraps around as a 64-bit integer", "digest()", x.digest(),
+        checksum(house, row, EMPTY_ROW, EMPTY_ROW, EMPTY_ROW, EMPTY_ROW));
   }
 }

@@ -790,6 +790,12 @@ public final class BoundariesOfRowsTest {
         make(0, 300) -> 0
         drop(0, 0) -> 0
         ofRow(0, 0) -> 299
+        pattern(1, 0, 300, 1, 1, 1) -> 1
+        drop(1, 300) -> 299
+        drop(1, 150) -> 149
+        at(1, 149) -> 151
+        at(1, 297) -> 299
+        ofRow(1, 0) -> 298
         """);
     Script.run("17: if it is not there, what a SEARCH tells (nothing changes)",
         """

@@ -310,6 +310,27 @@ public final class BoundariesOfShelvesTest {
             house(2) -> 0
             throwAway(0) -> IndexOutOfBoundsException
             """);
+    Script.run("24: .. and a SHELF that comes then changes none of those that stay",
+        SIX_SHELVES
+            + """
+            make(1, 2) -> 0
+            throwAway(0) -> 5
+            keep(1) -> 5
+            ofShelf(5, 0) -> 1
+            ofShelf(5, 1) -> 2
+            ofShelf(4, 0) -> 0
+            ofShelf(4, 1) -> 3
+            onShelf(4, 2) -> 7
+            throwAway(3) -> 5
+            throwAway(3) -> 4
+            keep(0) -> 4
+            fill(1, 9) -> 2
+            keep(1) -> 5
+            ofShelf(3, 0) -> 1
+            onShelf(3, 1) -> 0
+            onShelf(4, 2) -> 7
+            onShelf(5, 1) -> 9
+            """);
   }
 
   private static void knock() {
