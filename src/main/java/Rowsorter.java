@@ -10,6 +10,7 @@ public final class Rowsorter {
   private static final int LAST_BOUND = 400;
   private static final int MOST_IN_TEXT = 40;
   private static final int MOST_DIGITS = 20;
+  private static final int MOST_DIFFERENCE = 2147483647;
 
   private static final int NONE = -1;
   private static final int NO_FAULT = 0;
@@ -1024,7 +1025,7 @@ public final class Rowsorter {
         return NONE;
       }
       // Two ints can lie further apart than an int can tell.
-      long smallest = Integer.MAX_VALUE;
+      long smallest = MOST_DIFFERENCE;
       for (int place = 1; place < size; place++) {
         smallest = Math.min(smallest, (long) numbers[place] - numbers[place - 1]);
       }

@@ -8,7 +8,21 @@ public final class PromisesTest {
     whatIsAsked();
     whatWouldBe();
     digests();
+    exampleOfReadme();
     Script.end();
+  }
+
+  private static void exampleOfReadme() {
+    Script.run("the example of README.md",
+        """
+        pattern(1, 2, 5, 1, 10, 1) -> 3
+        text(1, 0, 2) -> "3000000019,33000000209"
+        keep(1) -> 0
+        sort(1) -> 3
+        find(1, 11) -> 2
+        layBack(0) -> 1
+        text(1, 0, 5) -> "3000000019,33000000209,63000000399,33000000209,3000000019"
+        """);
   }
 
   // ---- promises 1 to 12
